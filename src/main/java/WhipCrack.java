@@ -941,8 +941,9 @@ public final class WhipCrack {
                 ys[row] = way.ys[tick] * given / 100;
                 goOn(row, laws[AIR], laws[FALL]);
                 bend(row);
-                for (int round = 0; round < laws[ROUNDS]; round++) {
-                    pull(row);
+                boolean isStretched = true;
+                for (int round = 0; round < laws[ROUNDS] && isStretched; round++) {
+                    isStretched = pull(row);
                 }
                 shorten(row);
             }
@@ -979,7 +980,9 @@ public final class WhipCrack {
             }
         }
 
-        private void pull(int row) {
+        /** One round; false: no PIECE was stretched, so another round would find none either. */
+        private boolean pull(int row) {
+            boolean isStretched = false;
             for (int k = 1; k <= tip; k++) {
                 int at = row + k;
                 long a = xs[at] - xs[at - 1];
@@ -991,7 +994,9 @@ public final class WhipCrack {
                 } else if (d > 0) {
                     pullBoth(at, k, d, a, b);
                 }
+                isStretched = isStretched || d > 0;
             }
+            return isStretched;
         }
 
         private void pullBoth(int at, int k, long d, long a, long b) {
