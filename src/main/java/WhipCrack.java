@@ -20,6 +20,9 @@ public final class WhipCrack {
     private static final int[] LAW_MOST = {50, 50, 8, 2000, 30000};
     private static final int LEAST_GIVEN = 10, MOST_GIVEN = 200, GIVEN_STEP = 10;
 
+    /** Above every distance and every sum of distances, and above every square of one. */
+    private static final int FARTHEST = 0x7FFFFFFF;
+    private static final long FARTHEST_SQUARE = 0x7FFFFFFFFFFFFFFFL;
     private static final int MOST_PLACE = 5000, MOST_FILM_PLACE = 9999, MOST_NEAR = 9999;
     private static final int MOST_LATER = 30, MOST_BEHIND = 60, MOST_EVENING = 40;
     private static final int OF_THE_TIP = 0, OF_THE_LOOP = 1, OF_ANOTHER = 2;
@@ -296,7 +299,7 @@ public final class WhipCrack {
             return OUTSIDE;
         }
         int best = NONE;
-        int least = Integer.MAX_VALUE;
+        int least = FARTHEST;
         for (int hand = LEAST_GIVEN; hand <= MOST_GIVEN; hand += GIVEN_STEP) {
             other.fly(now.plait, now.way, now.laws, hand);
             int far = other.farOf(other.tip, other.nearestTick(x, y, 1, other.ticks), x, y);
@@ -399,7 +402,7 @@ public final class WhipCrack {
             return NOT;
         }
         int best = NONE;
-        int least = Integer.MAX_VALUE;
+        int least = FARTHEST;
         for (int hand = LEAST_GIVEN; hand <= MOST_GIVEN; hand += GIVEN_STEP) {
             other.fly(now.plait, now.way, now.laws, hand);
             int off = theFilm.distance(other);
@@ -643,17 +646,12 @@ public final class WhipCrack {
             return faultKind == 0;
         }
 
-        /** The byte at which the reading is, or END. */
-        int here() {
-            return at < size ? bytes[at] : END;
-        }
-
         /** The next byte that is no blank, or END; the reading is at it then. */
         int next() {
             while (at < size && bytes[at] == BLANK) {
                 at++;
             }
-            return here();
+            return at < size ? bytes[at] : END;
         }
 
         boolean takesSign(char sign) {
@@ -694,7 +692,12 @@ public final class WhipCrack {
         }
 
         void needWord(String word) {
-            if (isFine() && !takesWord(word)) {
+            if (!isFine()) {
+                return;
+            }
+            if (isWord(word)) {
+                at += word.length();
+            } else {
                 blame(FAULT_PLACE, at);
             }
         }
@@ -1212,7 +1215,7 @@ public final class WhipCrack {
         }
 
         int leastFar(int x, int y) {
-            long least = Long.MAX_VALUE;
+            long least = FARTHEST_SQUARE;
             for (int tick = 0; tick <= ticks; tick++) {
                 for (int k = 0; k <= tip; k++) {
                     least = Math.min(least, squares(xOf(k, tick) - x, yOf(k, tick) - y));
@@ -1224,7 +1227,7 @@ public final class WhipCrack {
         /** The first TICK from a to b in which THE TIP is nearest, by ROOTS: those cut alike are like ones. */
         int nearestTick(int x, int y, int a, int b) {
             int found = a;
-            int least = Integer.MAX_VALUE;
+            int least = FARTHEST;
             for (int tick = a; tick <= b; tick++) {
                 int far = farOf(tip, tick, x, y);
                 if (far < least) {
@@ -1237,7 +1240,7 @@ public final class WhipCrack {
 
         /** Of this whip and a second one that is turned about and begins later. */
         int leastFarOfTwo(Flight second, int d, int later) {
-            long least = Long.MAX_VALUE;
+            long least = FARTHEST_SQUARE;
             for (int tick = 0; tick <= ticks + later; tick++) {
                 int mine = Math.min(tick, ticks) * MOST_JOINTS;
                 int its = Math.min(Math.max(0, tick - later), second.ticks) * MOST_JOINTS;

@@ -607,7 +607,20 @@ public final class PromisesTest {
         round.put(1, 75, 75);
         due("16 round and round", round.turns(), 108);
         due("15 WRAPPED", round.kind(), 5);
+        Check.way(round, "go 150 0 for 3;go 0 150 for 3;go -150 0 for 3;go 0 -150 for 3;");
+        due("16 once round", round.turns(), 104);
+        due("15 four are WRAPPED", round.kind(), 5);
+        Check.way(round, "go 150 0 for 3;go 0 150 for 3;go -150 0 for 3;");
+        due("16 not quite round", round.turns(), 103);
+        due("15 three are not", round.kind(), 0);
+        Check.way(round, "go 0 150 for 3;go 150 0 for 3;go 0 -150 for 3;go -150 0 for 3;");
+        due("16 once round, back", round.turns(), 96);
+        due("15 four back are WRAPPED", round.kind(), 5);
+        Check.way(round, "go 0 150 for 3;go 150 0 for 3;go 0 -150 for 3;");
+        due("16 not quite round, back", round.turns(), 97);
+        due("15 three back are not", round.kind(), 0);
         round.law(3, 10);
+        Check.way(round, "times 2(go 150 0 for 3;go 0 150 for 3;go -150 0 for 3;go 0 -150 for 3;)");
         check.holds("15 it cracks too", round.crack(NONE, 0) > 0);
         due("15 WRAPPED ahead of CRACKED", round.kind(), 5);
         Check.way(round, "times 2(go 0 150 for 3;go 150 0 for 3;go 0 -150 for 3;go -150 0 for 3;)");
@@ -623,6 +636,8 @@ public final class PromisesTest {
     private static void turns() {
         // THE TIP goes 50, -50, -100, -137 along y = 0.
         WhipCrack w = light("go -100 0 for 1;hold 2;", 5);
+        w.put(0, 0, -10);
+        due("16 THE POST at first", w.turns(), 100);
         turnsAt(w, 300, 0, 100);
         turnsAt(w, 0, 0, 100);
         turnsAt(w, 0, -10, 101);
@@ -645,6 +660,33 @@ public final class PromisesTest {
         turnsAt(w, -40, -4, 102);
         turnsAt(w, -50, -2, 98);
         turnsAt(w, -50, -12, 102);
+        quarters();
+    }
+
+    /** THE TIP just beside THE POST, just above and just below it. */
+    private static void quarters() {
+        WhipCrack w = light("hold 2;", 50);
+        w.law(1, 1);
+        // It falls: y 0, -1, -2 at x 50, and stays within 50 of THE HAND.
+        dues("16 y", ys(w, 1), 0, -1, -2);
+        dues("16 x", xs(w, 1), 50, 50, 50);
+        turnsAt(w, 49, -1, 99);
+        turnsAt(w, 49, 0, 99);
+        turnsAt(w, 50, -1, 100);
+        turnsAt(w, 51, -1, 101);
+        turnsAt(w, 51, -2, 101);
+        turnsAt(w, 50, -2, 100);
+        Check.way(w, "go -100 0 for 1;go 0 60 for 1;hold 1;");
+        w.law(1, 0);
+        // THE HAND takes it to (-50, 0), then up: to (-67, 21) by the first round, to (-68, 22) at last.
+        dues("16 y going up", ys(w, 1), 0, 0, 22, 22);
+        dues("16 x going up", xs(w, 1), 50, -50, -68, -68);
+        turnsAt(w, -69, 22, 101);
+        turnsAt(w, -69, 21, 101);
+        turnsAt(w, -68, 21, 100);
+        turnsAt(w, -68, 22, 100);
+        turnsAt(w, -67, 22, 99);
+        turnsAt(w, -67, 21, 100);
     }
 
     private static void put() {
@@ -712,6 +754,10 @@ public final class PromisesTest {
         run.law(0, 2);
         Check.way(run, "hold 1;");
         due("20 found anew for another WAY", run.loudest(30, NONE), 3);
+        run.law(1, 0);
+        due("20 nothing moves: SPEED 0", run.loudest(30, NONE), 0);
+        due("20 nothing moves: the first row", run.loudest(30, 0), 12);
+        due("20 nothing moves: the first row", run.loudest(30, 3), 2);
 
         WhipCrack many = new WhipCrack();
         Check.plait(many, "piece 8 strands 1;");
@@ -854,6 +900,18 @@ public final class PromisesTest {
         one.kind();
         one.leastHand();
         due("26 a throw as it would be wears nothing", one.piece(0, 4), 32);
+        Check.way(one, "go -89 0 for 1;");
+        one.crackOn();
+        due("26 89 times 9 / 100 is cut", one.piece(0, 4), 40);
+
+        // Without AIR the SPEEDS are 100, 100 and 0, whatever the STUFF.
+        int[] wears = {4, 6, 18, 10};
+        for (int stuff = 0; stuff < 4; stuff++) {
+            WhipCrack s = light("go -100 0 for 1;hold 2;", 0);
+            Check.plait(s, "piece 1 strands 1 stuff " + stuff + ";");
+            s.crackOn();
+            due("26 200 times WEARS / 100 of STUFF " + stuff, s.piece(0, 4), wears[stuff]);
+        }
 
         WhipCrack w = swung();
         w.law(4, 30000);
@@ -1057,5 +1115,16 @@ public final class PromisesTest {
         due("35 as kept", w.law(4, 9), 1);
         w.goBack(0);
         due("35 as kept last", w.law(4, 9), 2);
+
+        WhipCrack far = new WhipCrack();
+        Check.way(far, "go 60 -60 for 30;go 60 -60 for 30;");
+        far.keep(0);
+        Check.way(far, "hold 30;hold 30;");
+        far.goBack(0);
+        due("35 all sixty TICKS", far.count(2), 60);
+        due("35 x in TICK 60", far.joint(0, 60, 0), 120);
+        due("35 y in TICK 60", far.joint(0, 60, 1), -120);
+        due("35 x in TICK 59", far.joint(0, 59, 0), 118);
+        due("35 y in TICK 59", far.joint(0, 59, 1), -118);
     }
 }
