@@ -1081,6 +1081,7 @@ public final class PromisesTest {
         w.law(4, 1);
         w.give(20);
         w.put(1, 0, -10);
+        w.put(0, -50, 3);
         w.film(1, 1);
         w.lay(0, 9);
         Check.feed(w, "piece 0");
@@ -1095,6 +1096,7 @@ public final class PromisesTest {
         w.give(100);
         dues("35 the throw", xs(w, 1), 50, -50, -100, -137);
         due("35 THE POST stays", w.turns(), 101);
+        due("35 THE EAR stays", w.near(), 3);
         due("35 AIR", w.law(0, 5), 5);
         due("35 FALL", w.law(1, 0), 0);
         due("35 ROUNDS", w.law(2, 4), 4);
