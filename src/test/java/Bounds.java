@@ -51,6 +51,17 @@ abstract class Bounds {
         return whip(SILK, way, 50, 0);
     }
 
+    /** A law's bounds by its call: what it is at first, both edges, and what is beyond them. */
+    void lawBounds(int what, int first, int least, int most) {
+        WhipCrack w = new WhipCrack();
+        due("the least; what it was at first", w.law(what, least), first);
+        due("the most; what it was", w.law(what, most), least);
+        due("what it was", w.law(what, least), most);
+        for (int v : new int[] {least - 1, most + 1, LEAST, MOST}) {
+            refused("law(" + what + ", " + v + ")", x -> x.law(what, v), OUTSIDE);
+        }
+    }
+
     static long[] xs(WhipCrack w, int k) {
         return places(w, k, 0);
     }

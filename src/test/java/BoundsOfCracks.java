@@ -37,7 +37,11 @@ final class BoundsOfCracks extends Bounds {
             due("SPEED 59, PACE 60", paced("go -59 0 for 1;", 60).crack(NONE, 0), 0);
             due("SPEED 60, PACE 60", paced("go -60 0 for 1;", 60).crack(NONE, 0), 1);
             due("SPEED 61, PACE 60", paced("go -61 0 for 1;", 60).crack(NONE, 0), 1);
-            due("THE HAND alone is fast", paced("go 45 0 for 1;", 10).crack(NONE, 0), 0);
+            WhipCrack hand = paced("go 45 0 for 1;", 10);
+            due("THE HAND alone is fast", hand.crack(NONE, 0), 0);
+            dues("its KIND, near, the second of two", new long[] {hand.kind(), hand.near(), hand.rhythm(5000, 100, 0, 0)}, 0, NONE, NONE);
+            // With GIVEN 200 THE HAND is at 90, 40 beyond JOINT 1: that still stays.
+            due("no LEAST HAND", hand.leastHand(), NONE);
             due("fast in two TICKS", paced("go -60 0 for 1;go -90 0 for 1;", 60).crack(NONE, 0), 1);
             WhipCrack again = paced("go -60 0 for 1;go -59 0 for 1;go -60 0 for 1;", 60);
             due("slower between", again.crack(NONE, 0), 2);
@@ -88,8 +92,11 @@ final class BoundsOfCracks extends Bounds {
             due("at first", w.near(), 500);
             w.put(0, 0, 500);
             due("put there", w.near(), 500);
-            due("to the left of it, x 0 at first", paced("go -90 0 for 1;", 50).crack(0, 5), 501);
-            due("to the right of it, x 0 at first", paced("go -10 0 for 1;", 10).crack(0, 5), 501);
+            // 32 times 32 and 500 times 500 have the ROOT 501, 31 times 31 and that have 500.
+            due("32 to the left of it, x 0 at first", paced("go -82 0 for 1;", 50).crack(0, 5), 501);
+            due("31 to the left of it, x 0 at first", paced("go -81 0 for 1;", 50).crack(0, 5), 500);
+            due("32 to the right of it, x 0 at first", paced("go -18 0 for 1;", 10).crack(0, 5), 501);
+            due("31 to the right of it, x 0 at first", paced("go -19 0 for 1;", 10).crack(0, 5), 500);
             int[][] edges = {{-5000, 0}, {5000, 0}, {0, -5000}, {0, 5000}};
             for (int[] e : edges) {
                 due("put(0, " + e[0] + ", " + e[1] + ")", w.put(0, e[0], e[1]), 1);
@@ -104,6 +111,13 @@ final class BoundsOfCracks extends Bounds {
             for (int[] f : fars) {
                 w.put(0, f[0], f[1]);
                 due("FAR of " + f[0] + ", " + f[1], w.crack(0, 5), f[2]);
+            }
+            // It falls by 50, THE HAND with it: the CRACK is at (50, -50).
+            WhipCrack below = whip(SILK, "go 0 -50 for 1;", 50, 50, 3, 50);
+            int[][] places = {{50, -50, 0}, {50, -51, 1}, {50, -49, 1}, {50, 50, 100}, {-50, -50, 100}};
+            for (int[] p : places) {
+                below.put(0, p[0], p[1]);
+                dues("FAR and near of " + p[0] + ", " + p[1], new long[] {below.crack(0, 5), below.near()}, p[2], p[2]);
             }
         });
         sentence("HEARD it is in the TICK of it and FAR / PACE", () -> {
@@ -142,6 +156,14 @@ final class BoundsOfCracks extends Bounds {
         due(ticks + " down from " + fromX + ", " + fromY, w.turns(), 100 + want);
     }
 
+    /** TURNS of a jump by (-37, 151), to where THE TIP is so seen from THE POST. */
+    private void lift(int toX, int toY, int want) {
+        WhipCrack w = light("go 0 200 for 1;");
+        dues("lifted", new long[] {w.joint(1, 1, 0), w.joint(1, 1, 1)}, 13, 151);
+        w.put(1, 13 - toX, 151 - toY);
+        due("up to " + toX + ", " + toY, w.turns(), 100 + want);
+    }
+
     /** TURNS of a jump to the left by 100, to where THE TIP is so seen from THE POST. */
     private void jump(int toX, int toY, int want) {
         WhipCrack w = light("go -100 0 for 1;");
@@ -178,6 +200,12 @@ final class BoundsOfCracks extends Bounds {
             jump(1, 0, 0);
             jump(1, 1, 0);
             jump(0, 1, 1);
+            // From quarter 3, the one before it.
+            lift(1, 0, 1);
+            lift(1, 1, 1);
+            lift(1, -1, 0);
+            lift(0, 1, 0);
+            lift(0, 0, 0);
         });
         sentence("1 x not more and y more", () -> {
             jump(0, 1, 1);
@@ -216,10 +244,7 @@ final class BoundsOfCracks extends Bounds {
             fall(2, 0, 1, 0);
             // About the end: from quarter 0 to quarter 3 one less, from 3 to 0 one more.
             fall(1, 1, 0, -1);
-            WhipCrack up = light("go 0 200 for 1;");
-            dues("lifted", new long[] {up.joint(1, 1, 0), up.joint(1, 1, 1)}, 13, 151);
-            up.put(1, 0, 100);
-            due("from 3 to 0", up.turns(), 101);
+            lift(13, 51, 1);
         });
     }
 
@@ -277,6 +302,10 @@ final class BoundsOfCracks extends Bounds {
             WhipCrack stiff = whip("piece 12 strands 16 stuff 1;", "go 0 -100 for 1;", 50, 0, 1, 2000);
             dues("y of JOINT 4 and of THE TIP", new long[] {stiff.joint(4, 1, 1), stiff.joint(12, 1, 1)}, 17, 0);
             due("a JOINT that is not THE TIP", stiff.kind(), 2);
+            // Of three PIECES only THE TIP can be so high: THE HAND goes to below it, and it is pulled by 2 hairs.
+            WhipCrack three = whip("length 20;piece 3 strands 1 stuff 2;", "go 60 -50 for 1;", 50, 0, 3, 2000);
+            dues("y", new long[] {three.joint(0, 1, 1), three.joint(1, 1, 1), three.joint(2, 1, 1), three.joint(3, 1, 1)}, -50, -32, -14, -2);
+            due("THE TIP alone", three.kind(), 2);
             WhipCrack later = whip("piece 12 strands 1 stuff 2;", "hold 1;go 0 -102 for 1;go 0 102 for 1;", 50, 0, 1, 2000);
             due("in a TICK between", later.kind(), 2);
             later.law(PACE, 2000);

@@ -164,6 +164,12 @@ final class BoundsOfSearches extends Bounds {
             due("THE HAND in the last TICK", w.alone(-207, 0), 7);
             due("THE TIP at rest", w.alone(57, 0), 7);
             due("between", w.alone(-75, 0), 25);
+            WhipCrack last = light("hold 1;go -100 0 for 1;");
+            due("THE HAND in the last TICK alone", last.alone(-100, 7), 7);
+            due("THE TIP in the last TICK alone", last.alone(-50, 7), 7);
+            // It falls by 50, THE HAND with it.
+            WhipCrack below = whip(SILK, "go 0 -50 for 1;", 50, 50);
+            dues("below", new long[] {below.alone(50, -50), below.alone(50, -51), below.alone(0, -50), below.alone(50, 49)}, 0, 1, 0, 49);
         });
         sentence("BEST AIM: GIVEN (10, 20, .. 200) with which it comes nearest, so that no JOINT comes nearer than r to the other; "
             + "of like ones the least", () -> {
@@ -222,7 +228,9 @@ final class BoundsOfSearches extends Bounds {
         });
         sentence("BEST AIM at a place in all TICKS from 1 on, the other one THE EAR, r 0 .. 9999; NONE. OUTSIDE.", () -> {
             WhipCrack w = light("go -100 0 for 1;hold 1;");
-            due("TICK 0 does not count", w.bestAim(50, 0, 0), 10);
+            // To the left and back: with 100 THE TIP comes back to 50 just where it was, with all others it does not.
+            WhipCrack back = light("go -100 0 for 1;go 200 0 for 1;");
+            due("TICK 0 does not count", back.bestAim(50, 0, 0), 100);
             Check.way(w, "hold 1;go -100 0 for 1;");
             due("TICK 1 counts: all as near", w.bestAim(50, 0, 0), 10);
             due("the last TICK counts", w.bestAim(-150, 0, 0), 200);
@@ -279,6 +287,8 @@ final class BoundsOfSearches extends Bounds {
             due("both THE HANDS at rest", light("hold 1;").close(-7, 100, 0), 7);
             // In TICK 1 THE HANDS are at (-10, 4) and at (-19 and 1, 0): 64 and 16 are a square less 1.
             due("the ROOT of 80", light("go -10 4 for 1;").close(-19, 10, 0), 8);
+            due("the ROOT of 100", light("go -10 6 for 1;").close(-19, 10, 0), 10);
+            due("both THE HANDS as high", light("go -10 4 for 1;").close(-19, 100, 0), 1);
             due("the ROOT of 81", light("go -10 0 for 1;").close(-20, 10, 0), 9);
         });
         sentence("RHYTHM: the o (0 .. 30) by which the first CRACK of the second comes just h TICKS behind the first one of the first, "

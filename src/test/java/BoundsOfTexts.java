@@ -403,6 +403,11 @@ final class BoundsOfTexts extends Bounds {
             badWay("hold 30;hold 30;hold 1;", 4, 23);
             badWay("times 9(hold 6;)hold 7;", 4, 23);
             badWay("times 2(hold 30;)hold 1;", 4, 24);
+            // Sixty clauses of a TICK each, and one more: by itself, or as the last one of 'times'.
+            way("times 9(times 6(hold 1;))times 6(hold 1;)", 60);
+            badWay("times 9(times 6(hold 1;))times 6(hold 1;)hold 1;", 4, 48);
+            badWay("times 9(times 6(hold 1;))times 6(hold 1;)go 1 1 for 1;", 4, 54);
+            badWay("times 9(times 6(hold 1;))times 7(hold 1;)", 4, 41);
             WhipCrack w = new WhipCrack();
             Check.way(w, "times 6(times 2(times 5(go 1 -1 for 1;)))");
             due("sixty clauses", w.count(3), 60);
@@ -477,6 +482,9 @@ final class BoundsOfTexts extends Bounds {
             }
             dues("count", counts, 4, 50, 1, 1, 0, 20, 0, 0, 0, 100);
             dues("WEAR", pieces(w, 4), 0, 0, 0, 0);
+            dues("its THROW, TICK 0", row(new WhipCrack(), 0), 0, 50, 100, 150, 200);
+            dues("its THROW, TICK 1", row(new WhipCrack(), 1), 0, 50, 100, 150, 200);
+            dues("THE TIP falls by FALL", ys(new WhipCrack(), 4), 0, -3);
             dues("LAWS", new long[] {w.law(AIR, 0), w.law(FALL, 0), w.law(ROUNDS, 1), w.law(PACE, 10), w.law(LASTS, 1)},
                 2, 3, 3, 150, 5000);
         });
@@ -518,6 +526,18 @@ final class BoundsOfTexts extends Bounds {
         });
     }
 
+    /** What was asked of THE PLAIT ahead is not told of the new one, nor is what was asked of THE WAY ahead. */
+    private void thrownAnew() {
+        WhipCrack w = whip("piece 2 strands 1 stuff 2;", "go -100 0 for 1;", 50, 0);
+        dues("THE TIP of two PIECES", new long[] {w.joint(2, 1, 0), w.aim(0, 0, 1, 1, 0), w.loudest(96, 1)}, 0, 0, 12);
+        Check.plait(w, "length 20;" + SILK);
+        dues("THE TIP of one", new long[] {w.joint(1, 1, 0), w.aim(0, 0, 1, 1, 0), w.loudest(96, 0), w.loudest(96, 1)}, -80, 80, 12, NONE);
+        Check.plait(w, "length 20;piece 3 strands 1 stuff 2;");
+        dues("THE TIP of three", new long[] {w.joint(3, 1, 0), w.aim(0, 0, 1, 1, 0), w.loudest(96, 2)}, -40, 40, 12);
+        Check.way(w, "go -200 0 for 1;");
+        dues("another WAY", new long[] {w.joint(3, 1, 0), w.aim(0, 0, 1, 1, 0), w.loudest(96, NONE)}, -140, 140, 200);
+    }
+
     private void reading() {
         sentence("THE TEXT (it is empty then) becomes THE PLAIT (WEAR 0): how many PIECES; -10 less the number of its FAULT (it is as it was).", () -> {
             WhipCrack w = used();
@@ -527,6 +547,7 @@ final class BoundsOfTexts extends Bounds {
             due("THE TEXT is empty", w.count(4), 0);
             dues("WEAR", pieces(w, 4), 0, 0, 0, 0, 0);
             due("an empty text", w.plait(), -11);
+            thrownAnew();
             int[] numbers = {11, 12, 13, 14, 15};
             String[] texts = {"x", "piece 0", "piece 1 strands 1;piece 1 strands 2;", "piece 12 strands 1;piece 1", "length 50;length"};
             for (int i = 0; i < texts.length; i++) {

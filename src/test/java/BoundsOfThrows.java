@@ -14,17 +14,6 @@ final class BoundsOfThrows extends Bounds {
         throwCalls();
     }
 
-    /** A law's bounds by its call: what it is at first, both edges, and what is beyond them. */
-    private void lawBounds(int what, int first, int least, int most) {
-        WhipCrack w = new WhipCrack();
-        due("the least; what it was at first", w.law(what, least), first);
-        due("the most; what it was", w.law(what, most), least);
-        due("what it was", w.law(what, least), most);
-        for (int v : new int[] {least - 1, most + 1, LEAST, MOST}) {
-            refused("law(" + what + ", " + v + ")", x -> x.law(what, v), OUTSIDE);
-        }
-    }
-
     private void laws() {
         sentence("AIR (0 .. 50; 2 at first)", () -> {
             lawBounds(AIR, 2, 0, 50);
@@ -135,6 +124,9 @@ final class BoundsOfThrows extends Bounds {
                 WhipCrack w = whip("piece 1 strands 2 stuff 2;", "go -" + m[0] + " 0 for 1;hold 1;", 50, 0);
                 due("WEIGHT 2 behind " + m[0], w.speed(1, 2), m[1]);
             }
+            // To the right, where it is slack behind: nothing would keep it from going on.
+            dues("moved by 20", xs(light("go 120 0 for 1;hold 1;"), 1), 50, 70, 70);
+            dues("moved by 18", xs(light("go 118 0 for 1;hold 1;"), 1), 50, 68, 69);
         });
         sentence("FALL is taken from y", () -> {
             // In TICK 1 it moved by (-20, -3), ROOT 20: it does not go on in TICK 2, but falls.
@@ -142,11 +134,18 @@ final class BoundsOfThrows extends Bounds {
             dues("x", xs(w, 1), 50, 30, 30);
             dues("y", ys(w, 1), 0, -3, -7);
             dues("THE HAND does not fall", ys(w, 0), 0, 0, 0);
+            // Without AIR by 3, and by 3 and 3 more.
+            dues("as it goes on", ys(whip(SILK, "hold 2;", 0, 3), 1), 0, -3, -9);
         });
         sentence("Then each k from 2 on: with q twice JOINT k - 1 less JOINT k - 2: it moves by (q less it) times BENDS / 1000", () -> {
             dues("JOINT 2 is bent, JOINT 1 is not", row(whip("piece 2 strands 16 stuff 1;", "go 50 0 for 1;", 0, 0), 1), 50, 50, 75);
             dues("the last of three too, by JOINT 2 as it is bent", row(whip("piece 3 strands 16 stuff 1;", "go 50 0 for 1;", 0, 0), 1),
                 50, 50, 75, 125);
+            // -111 times 18 is -1998, which is -1 and not yet -2.
+            dues("cut towards 0", row(whip("piece 2 strands 9 stuff 2;", "go 111 0 for 1;", 0, 0), 1), 111, 61, 99);
+            // JOINTS 1 and 2 fall to -4, q is 16 there: JOINT 2 moves by half of 20.
+            WhipCrack y = whip("piece 2 strands 16 stuff 1;", "go 50 -24 for 1;", 0, 4);
+            dues("y likewise", new long[] {y.joint(0, 1, 1), y.joint(1, 1, 1), y.joint(2, 1, 1)}, -24, -4, 6);
             dues("JOINT 1 alone", row(whip("piece 1 strands 16 stuff 1;", "go 50 0 for 1;", 0, 0), 1), 50, 50);
         });
     }
@@ -207,6 +206,20 @@ final class BoundsOfThrows extends Bounds {
             due("0 is not below 0", like.loop(3), 2);
             dues("25, -50 and 25 long", row(like, 4), 150, 175, 125, 150);
             due("the first of like ones", like.loop(4), 1);
+            // THE HAND below or above JOINT 1, which is straight above or below it: 0 and 50 times 10, to both sides.
+            String two = "piece 2 strands 1 stuff 2;";
+            due("both up", whip(two, "go 50 -60 for 1;", 50, 0).loop(1), NONE);
+            due("both down", whip(two, "go 50 60 for 1;", 50, 0).loop(1), NONE);
+            // In TICK 2 THE HAND is 45 above JOINT 1, and JOINT 2 is 14 above that.
+            WhipCrack turned = whip(two, "go 50 -60 for 1;go 0 90 for 1;", 50, 0);
+            dues("x of TICK 2", row(turned, 2), 50, 50, 98);
+            dues("y of TICK 2", new long[] {turned.joint(0, 2, 1), turned.joint(1, 2, 1), turned.joint(2, 2, 1)}, 30, -15, -1);
+            due("down, then up", turned.loop(2), 1);
+            // PIECES of (-49, -10), (-1, 10), (50, 0): 49 less 100 is just less than -50 and 0.
+            WhipCrack both = whip("piece 3 strands 1 stuff 2;", "go 90 -60 for 1;go 60 60 for 1;", 50, 0);
+            dues("x", row(both, 2), 150, 101, 100, 150);
+            dues("y", new long[] {both.joint(0, 2, 1), both.joint(1, 2, 1), both.joint(2, 2, 1), both.joint(3, 2, 1)}, 0, -10, 0, 0);
+            due("-51 ahead of -50", both.loop(2), 1);
         });
     }
 

@@ -53,12 +53,24 @@ final class BoundsOfWear extends Bounds {
             WhipCrack w = row("2031", "go -100 0 for 1;", 30000);
             w.crackOn();
             dues("each by its own STUFF", pieces(w, 4), 9, 2, 5, 3);
+            WhipCrack hand = row("22", "go 45 0 for 1;", 5000);
+            hand.crackOn();
+            dues("THE HAND alone moves", pieces(hand, 4), 0, 0);
+            // JOINT 1 stays, JOINT 2 is bent by 25, half of what THE HAND moves.
+            WhipCrack bent = whip("piece 2 strands 16 stuff 1;", "go 50 0 for 1;", 0, 0);
+            for (int i = 0; i < 4; i++) {
+                bent.crackOn();
+            }
+            dues("25 times 3 is not yet 100", pieces(bent, 4), 0, 0);
+            Check.way(bent, "go 50 0 for 1;go 60 0 for 1;");
+            bent.crackOn();
+            dues("10 times 3, and 25 and 55 times 3", pieces(bent, 4), 0, 2);
         });
     }
 
     private void gone() {
         sentence("It is GONE when its WEAR is LASTS (1 .. 30000; 5000 at first) or more", () -> {
-            due("at first", new WhipCrack().law(LASTS, 1), 5000);
+            lawBounds(LASTS, 5000, 1, 30000);
             due("WEAR 9, LASTS 10", row("22", "go -100 0 for 1;", 10).crackOn(), 0);
             due("WEAR 9, LASTS 9", row("22", "go -100 0 for 1;", 9).crackOn(), 1);
             due("WEAR 9, LASTS 8", row("22", "go -100 0 for 1;", 8).crackOn(), 1);
@@ -87,9 +99,12 @@ final class BoundsOfWear extends Bounds {
             due("PIECES", w.count(0), 1);
             due("PIECE 1", w.piece(1, 0), UNKNOWN);
             due("JOINT 2", w.joint(2, 0, 0), UNKNOWN);
+            dues("THE TIP is JOINT 1 now, and so in all that is asked", new long[] {w.joint(1, 1, 0), w.aim(-50, 0, 1, 1, 0),
+                w.alone(150, 0), w.force(NONE, 1), w.loudest(96, 0), w.loudest(96, 1)}, -50, 0, 100, 40000, 12, NONE);
             WhipCrack last = row("0002", "go -100 0 for 1;", 9);
             due("the last one alone", last.crackOn(), 1);
             dues("those ahead stay", pieces(last, 4), 2, 2, 2);
+            dues("THE TIP is JOINT 3 now", new long[] {last.joint(3, 1, 0), last.aim(50, 0, 1, 1, 0), last.alone(200, 0)}, 50, 0, 50);
             due("PIECES 1 and 3: from the first of them on", row("0202", "go -100 0 for 1;", 9).crackOn(), 3);
         });
         sentence("(one PIECE stays: PIECE 0 is never GONE)", () -> {
@@ -285,6 +300,8 @@ final class BoundsOfWear extends Bounds {
             dues("as many as THE WAY has", told(filmed(jerked(), -50, 0, -50, 0, -50, 1)), 100, 1);
             dues("one more than THE WAY has", told(filmed(jerked(), -50, 0, -50, 0, -50, 1, 9999, 9999)), 100, 1);
             dues("fewer than THE WAY has", told(filmed(jerked(), -50, 1)), 100, 1);
+            dues("y below 0", told(filmed(whip(SILK, "hold 1;", 50, 5), 50, -5)), 10, 0);
+            dues("y on the other side", told(filmed(whip(SILK, "hold 1;", 50, 5), 50, 5)), 10, 10);
         });
     }
 
@@ -401,8 +418,9 @@ final class BoundsOfWear extends Bounds {
             // The largest: 12 PIECES, 60 TICKS.
             WhipCrack most = whip("length 200;piece 12 strands 16 stuff 1;", "times 6(times 2(times 5(go 1 -1 for 1;)))");
             most.keep(0);
-            Check.plait(most, SILK);
-            Check.way(most, "hold 1;");
+            Check.plait(most, "piece 12 strands 1;");
+            Check.way(most, "times 6(times 2(times 5(go 2 -2 for 1;)))");
+            due("another last TICK", most.joint(0, 60, 0), 120);
             most.goBack(0);
             dues("all of it", new long[] {most.count(0), most.count(1), most.count(2), most.count(3), most.count(5)}, 12, 200, 60, 60, 192);
             dues("its last TICK", new long[] {most.joint(0, 60, 0), most.joint(0, 60, 1)}, 60, -60);
