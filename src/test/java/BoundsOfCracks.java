@@ -306,6 +306,9 @@ final class BoundsOfCracks extends Bounds {
             WhipCrack three = whip("length 20;piece 3 strands 1 stuff 2;", "go 60 -50 for 1;", 50, 0, 3, 2000);
             dues("y", new long[] {three.joint(0, 1, 1), three.joint(1, 1, 1), three.joint(2, 1, 1), three.joint(3, 1, 1)}, -50, -32, -14, -2);
             due("THE TIP alone", three.kind(), 2);
+            WhipCrack looped = whip("piece 12 strands 1 stuff 2;", "go 51 0 for 1;go -51 -102 for 1;", 50, 0, 1, 2000);
+            due("a LOOP too", looped.loop(1), 1);
+            due("ahead of FORWARD", looped.kind(), 2);
             WhipCrack later = whip("piece 12 strands 1 stuff 2;", "hold 1;go 0 -102 for 1;go 0 102 for 1;", 50, 0, 1, 2000);
             due("in a TICK between", later.kind(), 2);
             later.law(PACE, 2000);

@@ -265,6 +265,16 @@ final class BoundsOfSearches extends Bounds {
     }
 
     private void two() {
+        sentence("a second whip of the same PLAIT and WAY with its own GIVEN, its x turned about (D less it)", () -> {
+            // THE HAND goes to (-100, 30), the second's to (D and 100, 30): y is not turned about.
+            WhipCrack w = light("go -100 30 for 1;hold 2;");
+            int[][] met = {{-200, 0}, {-199, 1}, {-201, 1}, {0, 0}, {1, 1}, {100, 0}, {101, 1}};
+            for (int[] m : met) {
+                due("D " + m[0], w.close(m[0], 100, 0), m[1]);
+            }
+            due("its own GIVEN: at (D and 200, 60)", w.close(-300, 200, 0), 30);
+            due("GIVEN stays", w.count(9), 100);
+        });
         sentence("that begins o TICKS later (0 .. 30; it is at rest ahead; who is done stays as it is then)", () -> {
             WhipCrack w = jerked();
             // With GIVEN 200 the second's JOINTS go from D and D - 50 to D and 200, D and 150.

@@ -130,6 +130,32 @@ final class BoundsOfTexts extends Bounds {
     }
 
     private void plaitClauses() {
+        sentence("clause = 'length' N ';' 'piece' C 'strands' S ['stuff' F] ';': C PIECES more", () -> {
+            // Each part left out, each in the place of another, one too many.
+            badPlait("2 strands 3 stuff 1;", 1, 0);
+            badPlait("piece strands 3 stuff 1;", 1, 6);
+            badPlait("piece 2 3 stuff 1;", 1, 8);
+            badPlait("piece 2 strands stuff 1;", 1, 16);
+            badPlait("piece 2 strands 3 1;", 1, 18);
+            badPlait("piece 2 strands 3 stuff ;", 1, 24);
+            badPlait("piece 2 strands 3 stuff 1", 1, 25);
+            badPlait("piece 2 strands 3 piece 1 strands 1;", 1, 18);
+            badPlait("piece 2 stuff 1 strands 3;", 1, 8);
+            badPlait("piece 2 strands 3 stuff 1 stuff 1;", 1, 26);
+            badPlait("strands 3;", 1, 0);
+            badPlait("stuff 3;", 1, 0);
+            badPlait("50;piece 1 strands 1;", 1, 0);
+            badPlait("length ;piece 1 strands 1;", 1, 7);
+            badPlait("length 50 piece 1 strands 1;", 1, 10);
+            badPlait("length 50 50;piece 1 strands 1;", 1, 10);
+            badPlait("length -50;piece 1 strands 1;", 1, 7);
+            WhipCrack w = new WhipCrack();
+            due("2 and 3 more", Check.plait(w, "piece 2 strands 3;piece 3 strands 1 stuff 2;"), 5);
+            dues("STRANDS", pieces(w, 0), 3, 3, 1, 1, 1);
+            dues("STUFF", pieces(w, 1), 0, 0, 2, 2, 2);
+            due("no others: not those of the PLAIT ahead", Check.plait(w, "piece 1 strands 16;"), 1);
+            dues("STRANDS", pieces(w, 0), 16);
+        });
         sentence("N as told", () -> {
             plait("length 20;piece 1 strands 1;", 1);
             plait("length 200;piece 1 strands 1;", 1);
@@ -331,6 +357,29 @@ final class BoundsOfTexts extends Bounds {
             badWay("times 2(hold 1;", 1, 15);
             badWay("hold 1;)", 1, 7);
             badWay("times 2(hold 1;))", 1, 16);
+        });
+        sentence("clause = 'go' X Y 'for' T ';' 'hold' T ';' 'times' M '(' way ')'", () -> {
+            badWay("1 2 for 3;", 1, 0);
+            badWay("go for 3;", 1, 3);
+            badWay("go 1 for 3;", 1, 5);
+            badWay("go 1 2 3;", 1, 7);
+            badWay("go 1 2 3 for 3;", 1, 7);
+            badWay("go 1 2 for ;", 1, 11);
+            badWay("go 1 2 for 3 4;", 1, 13);
+            badWay("go 1 2;", 1, 6);
+            badWay("for 3;", 1, 0);
+            badWay("hold ;", 1, 5);
+            badWay("hold 3 hold 3;", 1, 7);
+            badWay("hold for 3;", 1, 5);
+            badWay("times (hold 1;)", 1, 6);
+            badWay("times 2 hold 1;)", 1, 8);
+            badWay("times 2;", 1, 7);
+            badWay("times 2(;)", 1, 8);
+            badWay("times 2(hold 1)", 1, 14);
+            badWay("times 2(hold 1;);", 1, 16);
+            badWay("(hold 1;)", 1, 0);
+            badWay("hold 1;;", 1, 7);
+            badWay("piece 1 strands 1;", 1, 0);
         });
         sentence("X, Y are -999 to 999", () -> {
             WhipCrack w = new WhipCrack();

@@ -9,6 +9,7 @@ final class BoundsOfThrows extends Bounds {
         beginning();
         goingOn();
         pulling();
+        speeds();
         loops();
         lawCalls();
         throwCalls();
@@ -128,6 +129,15 @@ final class BoundsOfThrows extends Bounds {
             dues("moved by 20", xs(light("go 120 0 for 1;hold 1;"), 1), 50, 70, 70);
             dues("moved by 18", xs(light("go 118 0 for 1;hold 1;"), 1), 50, 68, 69);
         });
+        sentence("else by u times (1000 w less AIR p) / (1000 w), v likewise", () -> {
+            // It moved by (-11, 9), p 14 of 202: of AIR 50 and WEIGHT 1 just 300 of 1000 are left, of AIR 0 all.
+            WhipCrack w = whip(SILK, "go 0 40 for 1;hold 1;", 50, 0, 1);
+            dues("x", xs(w, 1), 50, 39, 36);
+            dues("y", ys(w, 1), 0, 9, 11);
+            w.law(AIR, 0);
+            dues("x without AIR", xs(w, 1), 50, 39, 28);
+            dues("y without AIR", ys(w, 1), 0, 9, 18);
+        });
         sentence("FALL is taken from y", () -> {
             // In TICK 1 it moved by (-20, -3), ROOT 20: it does not go on in TICK 2, but falls.
             WhipCrack w = whip(SILK, "go -20 0 for 1;hold 1;", 50, 4);
@@ -186,6 +196,23 @@ final class BoundsOfThrows extends Bounds {
             // In a straight row one round leaves too much, but what is put last is just LENGTH.
             dues("just LENGTH", row(whip("piece 3 strands 1 stuff 2;", "go -100 0 for 1;", 0, 0, 1), 1), -100, -50, 0, 50);
             dues("less than LENGTH stays", row(whip("piece 2 strands 1 stuff 2;", "go 30 0 for 1;", 0, 0), 1), 30, 50, 100);
+        });
+    }
+
+    private void speeds() {
+        sentence("SPEED of JOINT k in a TICK: the ROOT of what it moved in x times that and in y likewise", () -> {
+            int[][] moves = {{0, 0, 0}, {1, 1, 1}, {-2, 2, 2}, {3, -4, 5}, {-3, -1, 3}, {0, -7, 7}, {7, 0, 7}, {999, -999, 1412}};
+            for (int[] m : moves) {
+                due("by " + m[0] + ", " + m[1], light("go " + m[0] + " " + m[1] + " for 1;").speed(0, 1), m[2]);
+            }
+            WhipCrack w = whip(SILK, "go 0 40 for 1;", 0, 0, 1);
+            due("JOINT 1 by -11, 9: the ROOT of 202", w.speed(1, 1), 14);
+        });
+        sentence("FORCE: its WEIGHT times the squares of what it moved, together", () -> {
+            WhipCrack w = whip(SILK, "go 0 40 for 1;", 0, 0, 1);
+            due("by -11, 9: 202, not the square of SPEED", w.force(1, 1), 202);
+            due("all of one JOINT", w.force(NONE, 1), 202);
+            due("WEIGHT 80", whip("piece 1 strands 16 stuff 1;", "go 0 40 for 1;", 0, 0, 1).force(1, 1), 80 * 202);
         });
     }
 
