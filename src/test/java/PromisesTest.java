@@ -903,6 +903,10 @@ public final class PromisesTest {
         Check.way(one, "go -89 0 for 1;");
         one.crackOn();
         due("26 89 times 9 / 100 is cut", one.piece(0, 4), 40);
+        // THE TIP moves by 10 in each TICK: 10 times 9 / 100 would be 0 each time.
+        WhipCrack slow = light("go -50 0 for 5;", 5);
+        slow.crackOn();
+        due("26 the sum of all TICKS times 9 / 100", slow.piece(0, 4), 4);
 
         // Without AIR the SPEEDS are 100, 100 and 0, whatever the STUFF.
         int[] wears = {4, 6, 18, 10};
@@ -933,6 +937,13 @@ public final class PromisesTest {
         due("26 all but PIECE 0 GONE", not.crackOn(), 3);
         due("26 one stays", not.count(0), 1);
         due("26 no more GONE", not.crackOn(), 0);
+
+        // Both JOINTS move by 100: the silk of PIECE 0 wears by 9, the kangaroo behind it by 2.
+        WhipCrack worn0 = light("go -100 0 for 1;", 5);
+        Check.plait(worn0, "piece 1 strands 1 stuff 2;piece 1 strands 1;");
+        worn0.law(4, 9);
+        due("26 PIECE 0 takes none with it", worn0.crackOn(), 0);
+        dues("26 both are there", pieces(worn0, 4), 9, 2);
     }
 
     private static void evening() {
